@@ -1,0 +1,45 @@
+import java.lang.reflect.Constructor;
+import java.lang.reflect.Field;
+import java.lang.reflect.Method;
+import java.lang.reflect.Modifier;
+import java.util.Set;
+import java.util.TreeSet;
+
+/** The class has the document's face, and nothing else that others can see. */
+public final class FaceTest {
+    private static final Set<String> FACE = Set.of(
+            "public int PropertyTrie.set(int,int,int,int) throws java.lang.IllegalArgumentException",
+            "public int PropertyTrie.mark(int,int,int,int,int) throws java.lang.IllegalArgumentException",
+            "public int PropertyTrie.get(int,int) throws java.lang.IllegalArgumentException",
+            "public int PropertyTrie.change(int,int) throws java.lang.IllegalArgumentException",
+            "public boolean PropertyTrie.alike(int,int) throws java.lang.IllegalArgumentException",
+            "public int PropertyTrie.hash(int,int,int) throws java.lang.IllegalArgumentException",
+            "public int PropertyTrie.clear()",
+            "public PropertyTrie()");
+
+    public static void main(String[] args) {
+        Checks checks = new Checks();
+        Set<String> seen = new TreeSet<>();
+        for (Constructor<?> constructor : PropertyTrie.class.getDeclaredConstructors()) {
+            seen.add(constructor.toString());
+        }
+        for (Method method : PropertyTrie.class.getDeclaredMethods()) {
+            if (!Modifier.isPrivate(method.getModifiers())) {
+                seen.add(method.toString());
+            }
+        }
+        for (Field field : PropertyTrie.class.getDeclaredFields()) {
+            checks.due(field + " is private", Modifier.isPrivate(field.getModifiers()), true);
+            checks.due(field + " is final if static",
+                    Modifier.isFinal(field.getModifiers()) || !Modifier.isStatic(field.getModifiers()), true);
+        }
+        for (Class<?> inside : PropertyTrie.class.getDeclaredClasses()) {
+            checks.due(inside + " is static", Modifier.isStatic(inside.getModifiers()), true);
+            checks.due(inside + " is not public", Modifier.isPublic(inside.getModifiers()), false);
+        }
+        checks.due("the face " + seen + " is " + FACE, seen.equals(FACE), true);
+        int modifiers = PropertyTrie.class.getModifiers();
+        checks.due("the class is public and final", modifiers, Modifier.PUBLIC | Modifier.FINAL);
+        checks.finish();
+    }
+}
