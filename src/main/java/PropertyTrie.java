@@ -282,7 +282,10 @@ public final class PropertyTrie {
         private final int[] heads = new int[CHAINS];
         private final int[] behind = new int[MOST_RECORDS];
 
-        /** The change under way, and what it has made of each record so far. */
+        /**
+         * The change under way, and what it makes of each record that it has met. It goes over each
+         * cell once, so it never meets a record that it has itself made.
+         */
         private int field;
         private int v;
         private int kept;
@@ -369,8 +372,6 @@ public final class PropertyTrie {
             System.arraycopy(wanted, 0, values, record * FIELDS, FIELDS);
             behind[record] = heads[chain];
             heads[chain] = record;
-            // The place may be that of a record that this very change has altered and dropped.
-            outcome[record] = NONE;
             return record;
         }
 

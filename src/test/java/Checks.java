@@ -20,13 +20,13 @@ final class Checks {
     }
 
     /** The call must throw IllegalArgumentException itself, not a class below it. */
-    void refused(String call, Call made) {
-        this.made++;
+    void refused(String text, Call call) {
+        made++;
         try {
-            fault(call + " answered " + made.answer() + ", due is an IllegalArgumentException");
+            fault(text + " answered " + call.answer() + ", due is an IllegalArgumentException");
         } catch (RuntimeException e) {
             if (e.getClass() != IllegalArgumentException.class) {
-                fault(call + " threw " + e + ", due is an IllegalArgumentException");
+                fault(text + " threw " + e + ", due is an IllegalArgumentException");
             }
         }
     }

@@ -23,8 +23,11 @@ public final class FaceTest {
         for (Constructor<?> constructor : PropertyTrie.class.getDeclaredConstructors()) {
             seen.add(constructor.toString());
         }
+        Set<String> names = Set.of("set", "mark", "get", "change", "alike", "hash", "clear");
         for (Method method : PropertyTrie.class.getDeclaredMethods()) {
-            if (!Modifier.isPrivate(method.getModifiers())) {
+            if (Modifier.isPrivate(method.getModifiers())) {
+                checks.due(method + " has a name of the face", names.contains(method.getName()), false);
+            } else {
                 seen.add(method.toString());
             }
         }

@@ -20,7 +20,7 @@ public final class LimitsTest {
             int first(int i) { return i == 0 ? 557056 : 1031 * i; }
             int last(int i) { return i == 0 ? LAST : LAST - 1031 * i; }
             int field(int i) { return i == 0 ? 1 : 0; }
-            int v(int i) { return i; }
+            int v(int i) { return i + 1; }
             int kept(int i) { return 0; }
         },
         /** Many records, and then changes that make others of all of them. */
@@ -28,7 +28,7 @@ public final class LimitsTest {
             int first(int i) { return i < 400 ? NESTED.first(i) : 0; }
             int last(int i) { return i < 400 ? NESTED.last(i) : LAST; }
             int field(int i) { return i < 400 ? NESTED.field(i) : 2 + i % 6; }
-            int v(int i) { return i; }
+            int v(int i) { return i + 1; }
             int kept(int i) { return i < 400 ? 0 : 0x55; }
         },
         /** Pieces of one point each. */
@@ -62,37 +62,63 @@ public final class LimitsTest {
         for (Way way : Way.values()) {
             test.lastCalls(way);
         }
+        test.roomAfterClearing();
         test.manyClearings();
         test.pastTheLastCall();
         test.checks.finish();
     }
 
-    /** New objects, each with as many changes as leave room for a few questions behind them. */
+    /** New objects, each with 511 changes and one question: half of them about the last changes. */
     private void lastCalls(Way way) {
-        int questions = 4;
+        int changes = CALLS - 1;
         Plain plain = new Plain();
-        for (int i = 0; i < CALLS - questions; i++) {
+        for (int i = 0; i < changes; i++) {
             plain.mark(way.first(i), way.last(i), way.field(i), way.v(i), way.kept(i));
         }
         Random random = new Random(7);
-        for (int round = 0; round < 60; round++) {
+        for (int round = 0; round < 120; round++) {
             PropertyTrie x = new PropertyTrie();
-            for (int i = 0; i < CALLS - questions; i++) {
-                checks.due(way + " mark " + i, x.mark(way.first(i), way.last(i), way.field(i), way.v(i), way.kept(i)),
-                        way.last(i) - way.first(i) + 1);
-            }
-            int i = random.nextInt(CALLS - questions);
-            int p = random.nextBoolean() ? way.first(i) : way.last(i) + 1;
-            int q = random.nextInt(LAST + 1);
-            int field = random.nextInt(8);
-            int from = Math.max(0, p - random.nextInt(3000));
-            int to = Math.min(LAST, p + random.nextInt(900));
-            String what = way + " " + p + ", " + q + ", " + field;
-            p = Math.min(p, LAST);
-            checks.due(what + " get", x.get(p, field), plain.get(p, field));
-            checks.due(what + " change", x.change(p, field), plain.change(p, field));
-            checks.due(what + " alike", x.alike(p, q), plain.alike(p, q));
-            checks.due(what + " hash", x.hash(from, to, field), plain.hash(from, to, field));
+            makeChanges(x, way, 0, changes);
+            int i = round % 2 == 0 ? changes - 1 - round / 8 : random.nextInt(changes);
+            int p = Math.min(LAST, random.nextBoolean() ? way.first(i) : way.last(i) + random.nextInt(2));
+            int field = random.nextInt(3) == 0 ? random.nextInt(8) : way.field(i);
+            ask(way + " after all changes: ", x, plain, round / 2 % 4, p, field);
+        }
+    }
+
+    private void makeChanges(PropertyTrie x, Way way, int from, int to) {
+        for (int i = from; i < to; i++) {
+            checks.due(way + " mark " + i, x.mark(way.first(i), way.last(i), way.field(i), way.v(i), way.kept(i)),
+                    way.last(i) - way.first(i) + 1);
+        }
+    }
+
+    private void ask(String where, PropertyTrie x, Plain plain, int question, int p, int field) {
+        int from = Math.max(0, p - 1400);
+        int to = Math.min(LAST, p + 1400);
+        String what = where + p + ", " + field;
+        switch (question) {
+            case 0 -> checks.due(what + " get", x.get(p, field), plain.get(p, field));
+            case 1 -> checks.due(what + " change", x.change(p, field), plain.change(p, field));
+            case 2 -> checks.due(what + " alike", x.alike(p, from), plain.alike(p, from));
+            default -> checks.due(what + " hash", x.hash(from, to, field), plain.hash(from, to, field));
+        }
+    }
+
+    /** Clearing must give back all the room that the changes before it had taken. */
+    private void roomAfterClearing() {
+        PropertyTrie x = new PropertyTrie();
+        makeChanges(x, Way.NESTED, 0, 370);
+        x.clear();
+        Plain plain = new Plain();
+        for (int i = 0; i < 120; i++) {
+            int way = i < 100 ? i : 300 + i;
+            makeChanges(x, Way.ALL_ANEW, way, way + 1);
+            plain.mark(Way.ALL_ANEW.first(way), Way.ALL_ANEW.last(way), Way.ALL_ANEW.field(way),
+                    Way.ALL_ANEW.v(way), Way.ALL_ANEW.kept(way));
+        }
+        for (int i = 0; i < 20; i++) {
+            ask("after clearing: ", x, plain, i % 4, Way.NESTED.first(99 - i), i % 8);
         }
     }
 

@@ -112,7 +112,7 @@ public final class PromisesTest {
         checks.due("change(0, 1)", x.change(0, 1), -1);
         checks.due("mark, v and kept share bits", x.mark(5, 5, 1, 6, 12), 1);
         checks.due("get(5, 1)", x.get(5, 1), 6);
-        checks.due("mark again", x.mark(5, 5, 1, 1, 12), 1);
+        checks.due("mark, v has a bit that is kept", x.mark(5, 5, 1, 5, 12), 1);
         checks.due("get(5, 1)", x.get(5, 1), 5);
         checks.due("get(5, 0), another field", x.get(5, 0), 0);
     }
