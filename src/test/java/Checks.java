@@ -5,8 +5,27 @@ final class Checks {
         long answer();
     }
 
+    private static final int MOST_SHOWN = 5;
+
+    private String sentence = "";
+    private int shown = 0;
     private int made = 0;
     private int wrong = 0;
+
+    /** Runs the test of a sentence of the document; what it throws is a fault of this sentence alone. */
+    void about(String words, Runnable test) {
+        sentence = words;
+        shown = 0;
+        int madeBefore = made;
+        try {
+            test.run();
+        } catch (RuntimeException e) {
+            fault("threw " + e + " at " + e.getStackTrace()[0]);
+        }
+        if (made == madeBefore) {
+            fault("nothing was looked at");
+        }
+    }
 
     void due(String call, long got, long want) {
         made++;
@@ -33,8 +52,9 @@ final class Checks {
 
     void fault(String text) {
         wrong++;
-        if (wrong <= 20) {
-            System.out.println(text);
+        shown++;
+        if (shown <= MOST_SHOWN) {
+            System.out.println(sentence.isEmpty() ? text : "[" + sentence + "] " + text);
         }
     }
 

@@ -59,13 +59,20 @@ public final class LimitsTest {
 
     public static void main(String[] args) {
         LimitsTest test = new LimitsTest();
-        for (Way way : Way.values()) {
-            test.lastCalls(way);
-        }
-        test.roomAfterClearing();
-        test.manyClearings();
-        test.pastTheLastCall();
+        test.usedForAllCalls();
+        test.checks.about("what later calls answer is free, but nothing is thrown by itself", test::pastTheLastCall);
         test.checks.finish();
+    }
+
+    private void usedForAllCalls() {
+        String sentence = "An object is used for at most 512 calls: ";
+        for (Way way : Way.values()) {
+            checks.about(sentence + "the last asks, " + way, () -> lastCalls(way));
+            checks.about(sentence + "the last is of any kind, " + way, () -> lastCallOfEachKind(way));
+        }
+        checks.about(sentence + "some of them throw", this::refusedCalls);
+        checks.about(sentence + "many change, and one between them clears", this::roomAfterClearing);
+        checks.about(sentence + "a quarter of them clear, or all", this::manyClearings);
     }
 
     /** New objects, each with 511 changes and one question: half of them about the last changes. */
@@ -105,6 +112,52 @@ public final class LimitsTest {
         }
     }
 
+    /** The 512th call may be any: a change, a clearing, a call that throws. */
+    private void lastCallOfEachKind(Way way) {
+        int changes = CALLS - 1;
+        Plain plain = new Plain();
+        for (int i = 0; i < changes; i++) {
+            plain.mark(way.first(i), way.last(i), way.field(i), way.v(i), way.kept(i));
+        }
+        checks.due("the last: set", changed(way, changes).set(1, LAST - 1, 0, -9), LAST - 1);
+        checks.due("the last: mark", changed(way, changes).mark(1, LAST - 1, 0, -9, 7), LAST - 1);
+        checks.due("the last: get", changed(way, changes).get(0, 0), plain.get(0, 0));
+        checks.due("the last: change", changed(way, changes).change(0, 0), plain.change(0, 0));
+        checks.due("the last: alike", changed(way, changes).alike(0, LAST), plain.alike(0, LAST));
+        checks.due("the last: hash", changed(way, changes).hash(0, 3999, 0), plain.hash(0, 3999, 0));
+        PropertyTrie x = changed(way, changes);
+        checks.refused("the last: set(0, last + 1)", () -> x.set(0, LAST + 1, 0, 1));
+        PropertyTrie y = changed(way, changes - 1);
+        y.set(1, LAST - 1, 0, -9);
+        checks.due("the last: get of what the last but one set", y.get(LAST - 1, 0), -9);
+        PropertyTrie z = changed(way, changes - 1);
+        z.clear();
+        checks.due("the last: change of what the last but one cleared", z.change(0, way.field(0)), -1);
+        checks.due("the last: clear", changed(way, changes).clear(), plain.clear());
+    }
+
+    private PropertyTrie changed(Way way, int changes) {
+        PropertyTrie x = new PropertyTrie();
+        makeChanges(x, way, 0, changes);
+        return x;
+    }
+
+    /** Calls that throw, between changes and up to the last but one. */
+    private void refusedCalls() {
+        PropertyTrie x = new PropertyTrie();
+        Plain plain = new Plain();
+        Way way = Way.NESTED;
+        for (int i = 0; i < 170; i++) {
+            int change = i;
+            checks.refused("set " + i, () -> x.set(way.first(change), LAST + 1, 0, 1));
+            checks.refused("mark " + i, () -> x.mark(0, LAST, 8, 1, -1));
+            makeChanges(x, way, i, i + 1);
+            plain.mark(way.first(i), way.last(i), way.field(i), way.v(i), way.kept(i));
+        }
+        checks.refused("hash", () -> x.hash(0, 4000, 0));
+        checks.due("the last: hash", x.hash(0, 3999, 0), plain.hash(0, 3999, 0));
+    }
+
     /** Clearing must give back all the room that the changes before it had taken. */
     private void roomAfterClearing() {
         PropertyTrie x = new PropertyTrie();
@@ -129,6 +182,10 @@ public final class LimitsTest {
             x.mark(i, LAST - i, 3, i + 1, 0);
             checks.due("get in round " + i, x.get(i, 3), i + 1);
             checks.due("clear in round " + i, x.clear(), 1024 - i);
+        }
+        PropertyTrie y = new PropertyTrie();
+        for (int i = 0; i < CALLS; i++) {
+            checks.due("clear number " + i, y.clear(), 0);
         }
     }
 

@@ -24,15 +24,17 @@ public final class OracleTest {
     public static void main(String[] args) {
         Checks checks = new Checks();
         for (int seed = 0; seed < 60; seed++) {
-            new OracleTest(checks, seed).mixedCalls(seed);
-            new OracleTest(checks, seed).wholeState(seed);
+            OracleTest mixed = new OracleTest(checks, seed);
+            checks.about("mixed run " + seed, mixed::mixedCalls);
+            OracleTest whole = new OracleTest(checks, seed);
+            checks.about("whole state " + seed, whole::wholeState);
         }
         checks.finish();
     }
 
-    private void mixedCalls(int seed) {
+    private void mixedCalls() {
         for (int i = 0; i < CALLS; i++) {
-            String where = "mixed run " + seed + ", call " + i + ": ";
+            String where = "call " + i + ": ";
             if (random.nextInt(120) == 0) {
                 checks.due(where + "clear()", trie.clear(), plain.clear());
             } else if (random.nextInt(10) < changesInTen) {
@@ -43,23 +45,13 @@ public final class OracleTest {
         }
     }
 
-    /** A few changes, and then every piece of every field from 0 to the last point. */
-    private void wholeState(int seed) {
-        String where = "whole state " + seed + ": ";
-        int changes = 28;
-        for (int i = 0; i < changes; i++) {
-            alter(where);
+    /** A few changes, so that a look at every piece of every field stays within the calls of an object. */
+    private void wholeState() {
+        for (int i = 0; i < 28; i++) {
+            alter("change " + i + ": ");
         }
-        int calls = changes;
-        for (int field = 0; field < Plain.FIELDS; field++) {
-            for (int point = 0; point >= 0 && calls + 2 < CALLS; point = plain.change(point, field)) {
-                String at = "(" + point + ", " + field + ")";
-                checks.due(where + "change" + at, trie.change(point, field), plain.change(point, field));
-                checks.due(where + "get" + at, trie.get(point, field), plain.get(point, field));
-                calls += 2;
-            }
-        }
-        checks.due(where + "clear()", trie.clear(), plain.clear());
+        new WholeState(plain).check(checks, "", trie);
+        checks.due("clear()", trie.clear(), plain.clear());
     }
 
     private void alter(String where) {

@@ -1,37 +1,28 @@
-/** Each promise of the document by hand: ordinary inputs, the edges it names, and wrong inputs. */
+/** Each promise of the document by hand on ordinary inputs, with every answer counted out. */
 public final class PromisesTest {
     private static final int LAST = 1114111;
-    private static final int[] NO_POINTS = {-1, LAST + 1, Integer.MIN_VALUE, Integer.MAX_VALUE, -LAST};
-    private static final int[] NO_FIELDS = {-1, 8, Integer.MIN_VALUE, Integer.MAX_VALUE};
-    private static final int[][] NO_RANGES = {
-        {-1, 0}, {-1, -1}, {0, LAST + 1}, {LAST + 1, LAST + 1}, {1, 0}, {LAST, LAST - 1}, {LAST, 0}, {5, -1},
-        {LAST + 1, 0}, {Integer.MIN_VALUE, Integer.MAX_VALUE}, {Integer.MAX_VALUE, Integer.MIN_VALUE},
-        {0, Integer.MAX_VALUE}, {Integer.MIN_VALUE, 0}, {Integer.MIN_VALUE, Integer.MIN_VALUE},
-        {Integer.MAX_VALUE, Integer.MAX_VALUE},
-    };
 
     private final Checks checks = new Checks();
 
     public static void main(String[] args) {
         PromisesTest test = new PromisesTest();
-        test.newObject();
-        test.objectsApart();
-        test.set();
-        test.setKeepsTheRest();
-        test.mark();
-        test.get();
-        test.change();
-        test.changeLooksAtOneField();
-        test.alike();
-        test.hash();
-        test.hashLength();
-        test.clear();
-        test.clearCounts();
-        test.wrongPoints();
-        test.wrongFields();
-        test.wrongRanges();
-        test.throwingChangesNothing();
+        test.all();
         test.checks.finish();
+    }
+
+    private void all() {
+        checks.about("1: a new object", this::newObject);
+        checks.about("1: objects have nothing in common", this::objectsApart);
+        checks.about("2: set", this::set);
+        checks.about("2: set leaves the rest", this::setKeepsTheRest);
+        checks.about("3: mark", this::mark);
+        checks.about("4: get", this::get);
+        checks.about("5: change", this::change);
+        checks.about("5: change looks at one field", this::changeLooksAtOneField);
+        checks.about("6: alike", this::alike);
+        checks.about("7: hash", this::hash);
+        checks.about("8: clear", this::clear);
+        checks.about("8: clear counts", this::clearCounts);
     }
 
     private void newObject() {
@@ -218,16 +209,6 @@ public final class PromisesTest {
         checks.due("hash(last - 99, last, 0)", x.hash(LAST - 99, LAST, 0), h);
     }
 
-    private void hashLength() {
-        PropertyTrie x = new PropertyTrie();
-        checks.due("hash(0, 3999, 0)", x.hash(0, 3999, 0), 1119276033);
-        checks.due("hash(last - 3999, last, 0)", x.hash(LAST - 3999, LAST, 0), 1119276033);
-        checks.refused("hash(0, 4000, 0)", () -> x.hash(0, 4000, 0));
-        checks.refused("hash(1, 4001, 0)", () -> x.hash(1, 4001, 0));
-        checks.refused("hash(last - 4000, last, 0)", () -> x.hash(LAST - 4000, LAST, 0));
-        checks.refused("hash(0, last, 0)", () -> x.hash(0, LAST, 0));
-    }
-
     private void clear() {
         PropertyTrie x = new PropertyTrie();
         for (int field = 0; field < 8; field++) {
@@ -270,62 +251,5 @@ public final class PromisesTest {
         checks.due("clear(), marked back to 0", x.clear(), 100);
         x.set(3, 3, 0, 0);
         checks.due("clear(), 0 set to 0", x.clear(), 0);
-    }
-
-    private void wrongPoints() {
-        PropertyTrie x = new PropertyTrie();
-        for (int point : NO_POINTS) {
-            checks.refused("get(" + point + ", 0)", () -> x.get(point, 0));
-            checks.refused("change(" + point + ", 0)", () -> x.change(point, 0));
-            checks.refused("alike(" + point + ", 0)", () -> x.alike(point, 0) ? 1 : 0);
-            checks.refused("alike(0, " + point + ")", () -> x.alike(0, point) ? 1 : 0);
-            checks.refused("alike(p, p) of " + point, () -> x.alike(point, point) ? 1 : 0);
-        }
-    }
-
-    private void wrongFields() {
-        PropertyTrie x = new PropertyTrie();
-        for (int field : NO_FIELDS) {
-            checks.refused("set(0, 0, " + field + ", 0)", () -> x.set(0, 0, field, 0));
-            checks.refused("mark(0, 0, " + field + ", 0, 0)", () -> x.mark(0, 0, field, 0, 0));
-            checks.refused("get(0, " + field + ")", () -> x.get(0, field));
-            checks.refused("get(last, " + field + ")", () -> x.get(LAST, field));
-            checks.refused("change(0, " + field + ")", () -> x.change(0, field));
-            checks.refused("hash(0, 0, " + field + ")", () -> x.hash(0, 0, field));
-        }
-    }
-
-    private void wrongRanges() {
-        PropertyTrie x = new PropertyTrie();
-        for (int[] range : NO_RANGES) {
-            int first = range[0];
-            int last = range[1];
-            String text = "(" + first + ", " + last + ", ..)";
-            checks.refused("set" + text, () -> x.set(first, last, 0, 0));
-            checks.refused("mark" + text, () -> x.mark(first, last, 0, 0, 0));
-            checks.refused("hash" + text, () -> x.hash(first, last, 0));
-        }
-    }
-
-    private void throwingChangesNothing() {
-        PropertyTrie x = new PropertyTrie();
-        x.set(20, 5000, 2, 6);
-        for (int[] range : NO_RANGES) {
-            checks.refused("set", () -> x.set(range[0], range[1], 2, 5));
-            checks.refused("mark", () -> x.mark(range[0], range[1], 2, 5, -1));
-        }
-        for (int field : NO_FIELDS) {
-            checks.refused("set", () -> x.set(0, LAST, field, 5));
-            checks.refused("mark", () -> x.mark(0, LAST, field, 5, -1));
-        }
-        checks.refused("hash", () -> x.hash(0, LAST, 2));
-        for (int field = 0; field < 8; field++) {
-            checks.due("after throws: change(0, " + field + ")", x.change(0, field), field == 2 ? 20 : -1);
-        }
-        checks.due("after throws: get(0, 2)", x.get(0, 2), 0);
-        checks.due("after throws: get(20, 2)", x.get(20, 2), 6);
-        checks.due("after throws: change(20, 2)", x.change(20, 2), 5001);
-        checks.due("after throws: change(5001, 2)", x.change(5001, 2), -1);
-        checks.due("after throws: clear()", x.clear(), 1004);
     }
 }
