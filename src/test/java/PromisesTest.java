@@ -116,7 +116,8 @@ public final class PromisesTest {
         }
         for (int i = 0; i < points.length; i++) {
             for (int field = 0; field < 8; field++) {
-                checks.due("get(" + points[i] + ", " + field + ")", x.get(points[i], field), field == i % 8 ? 100 + i : 0);
+                checks.due("get(" + points[i] + ", " + field + ")", x.get(points[i], field),
+                        field == i % 8 ? 100 + i : 0);
             }
         }
     }
