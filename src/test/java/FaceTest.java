@@ -33,16 +33,29 @@ public final class FaceTest {
         }
         for (Field field : PropertyTrie.class.getDeclaredFields()) {
             checks.due(field + " is private", Modifier.isPrivate(field.getModifiers()), true);
-            checks.due(field + " is final if static",
-                    Modifier.isFinal(field.getModifiers()) || !Modifier.isStatic(field.getModifiers()), true);
         }
+        checkStaticFields(checks, PropertyTrie.class);
         for (Class<?> inside : PropertyTrie.class.getDeclaredClasses()) {
-            checks.due(inside + " is static", Modifier.isStatic(inside.getModifiers()), true);
-            checks.due(inside + " is not public", Modifier.isPublic(inside.getModifiers()), false);
+            int modifiers = inside.getModifiers();
+            checks.due(inside + " is static", Modifier.isStatic(modifiers), true);
+            checks.due(inside + " is public or protected",
+                    Modifier.isPublic(modifiers) || Modifier.isProtected(modifiers), false);
+            checkStaticFields(checks, inside);
         }
+        checks.due("the class is below Object alone", PropertyTrie.class.getSuperclass() == Object.class, true);
+        checks.due("interfaces of the class", PropertyTrie.class.getInterfaces().length, 0);
         checks.due("the face " + seen + " is " + FACE, seen.equals(FACE), true);
         int modifiers = PropertyTrie.class.getModifiers();
         checks.due("the class is public and final", modifiers, Modifier.PUBLIC | Modifier.FINAL);
         checks.finish();
+    }
+
+    /** Objects can have nothing in common but constants. */
+    private static void checkStaticFields(Checks checks, Class<?> inClass) {
+        for (Field field : inClass.getDeclaredFields()) {
+            if (Modifier.isStatic(field.getModifiers())) {
+                checks.due(field + " is final", Modifier.isFinal(field.getModifiers()), true);
+            }
+        }
     }
 }
